@@ -41,8 +41,6 @@ public final class ShadowWalls {
     private final int[] watcherCells;
     /** For each cell one bit a lamp: set if this lamp lights it. Kept up to date by every change. */
     private final int[] light;
-    /** Like light, for a yard that is only supposed. */
-    private final int[] supposedLight;
     private final int[] steps;
     private final int[] queue;
     /** One for all walks, so that a call makes no objects. */
@@ -57,7 +55,6 @@ public final class ShadowWalls {
         lampReaches = new int[MOST_LAMPS];
         watcherCells = new int[MOST_WATCHERS];
         light = new int[CELLS];
-        supposedLight = new int[CELLS];
         steps = new int[CELLS];
         queue = new int[CELLS];
         way = new Way();
@@ -71,7 +68,7 @@ public final class ShadowWalls {
         int cell = cellAt(x, y);
         int before = kindOf(cell);
         putKind(cell, kind);
-        shineAll(light);
+        shineAll();
         return before;
     }
 
@@ -90,7 +87,7 @@ public final class ShadowWalls {
         lampCells[number] = cell;
         lampReaches[number] = reach;
         lamps = number + 1;
-        shine(number, light);
+        shine(number);
         return number;
     }
 
@@ -102,8 +99,8 @@ public final class ShadowWalls {
             throw new IllegalStateException("a lamp is there");
         }
         putLamp(lamp, cell);
-        shine(lamp, light);
-        return litCells(light);
+        shine(lamp);
+        return litCells();
     }
 
     public int turn(int lamp, int reach) throws IndexOutOfBoundsException, IllegalArgumentException {
@@ -111,7 +108,7 @@ public final class ShadowWalls {
         requireReach(reach);
         int before = reachOf(lamp);
         putReach(lamp, reach);
-        shine(lamp, light);
+        shine(lamp);
         return before;
     }
 
@@ -155,7 +152,7 @@ public final class ShadowWalls {
             case 1:
                 return brightness(cell);
             case 2:
-                return Integer.bitCount(lightOn(light, cell));
+                return Integer.bitCount(lampsOn(cell));
             case 3:
                 return watchersAt(cell);
             default:
@@ -211,7 +208,7 @@ public final class ShadowWalls {
             case 2:
                 return cellsNotOpen();
             case 3:
-                return litCells(light);
+                return litCells();
             case 4:
                 return edgesOfLight();
             case 5:
@@ -257,16 +254,16 @@ public final class ShadowWalls {
         int cell = cellAt(x, y);
         int before = kindOf(cell);
         putKind(cell, kind);
-        shineAll(supposedLight);
+        int then = litCellsAnew();
         putKind(cell, before);
-        return litCells(supposedLight) - litCells(light);
+        return then - litCells();
     }
 
     public int advise(int lamp) throws IndexOutOfBoundsException {
         requireLamp(lamp);
         int home = cellOfLamp(lamp);
         int best = NONE;
-        int most = litCells(light);
+        int most = litCells();
         for (int side = 0; side < NEIGHBOURS; side++) {
             int cell = neighbour(home, side);
             if (cell != NONE && !isLampAt(cell)) {
@@ -291,7 +288,7 @@ public final class ShadowWalls {
     }
 
     public double mean() {
-        int lit = litCells(light);
+        int lit = litCells();
         if (lit == 0) {
             return 0.0;
         }
@@ -305,7 +302,7 @@ public final class ShadowWalls {
         }
         for (int cell = 0; cell < CELLS; cell++) {
             d = d * DIGEST_FACTOR + kindOf(cell);
-            d = d * DIGEST_FACTOR + Integer.bitCount(lightOn(light, cell));
+            d = d * DIGEST_FACTOR + Integer.bitCount(lampsOn(cell));
         }
         for (int lamp = 0; lamp < lamps; lamp++) {
             for (int what = 0; what <= LAST_OF_ABOUT; what++) {
@@ -477,17 +474,17 @@ public final class ShadowWalls {
         return false;
     }
 
-    private void shineAll(int[] row) {
+    private void shineAll() {
         for (int lamp = 0; lamp < lamps; lamp++) {
-            shine(lamp, row);
+            shine(lamp);
         }
     }
 
-    /** Puts this lamp's bits into the row anew, and leaves the other lamps' as they are. */
-    private void shine(int lamp, int[] row) {
+    /** Finds this lamp's light anew, and leaves the other lamps' as it is. */
+    private void shine(int lamp) {
         int bit = 1 << lamp;
-        for (int cell = 0; cell < row.length; cell++) {
-            row[cell] = shinesOn(lamp, cell) ? row[cell] | bit : row[cell] & ~bit;
+        for (int cell = 0; cell < light.length; cell++) {
+            light[cell] = shinesOn(lamp, cell) ? light[cell] | bit : light[cell] & ~bit;
         }
     }
 
@@ -499,28 +496,48 @@ public final class ShadowWalls {
         return dx * dx + dy * dy <= reach * reach && (stoppedBetween(home, cell) & LIGHT) == 0;
     }
 
-    private static int lightOn(int[] row, int cell) {
-        return cell >= 0 && cell < row.length ? row[cell] : 0;
+    private int lampsOn(int cell) {
+        return cell >= 0 && cell < light.length ? light[cell] : 0;
     }
 
     private boolean isLit(int cell) {
-        return lightOn(light, cell) != 0;
+        return lampsOn(cell) != 0;
     }
 
-    private static int litCells(int[] row) {
+    private int litCells() {
         int found = 0;
-        for (int cell = 0; cell < row.length; cell++) {
-            if (row[cell] != 0) {
+        for (int cell = 0; cell < CELLS; cell++) {
+            if (isLit(cell)) {
                 found++;
             }
         }
         return found;
     }
 
+    /** For a yard that is only supposed, for which the light is not kept. */
+    private int litCellsAnew() {
+        int found = 0;
+        for (int cell = 0; cell < CELLS; cell++) {
+            if (isShoneOn(cell)) {
+                found++;
+            }
+        }
+        return found;
+    }
+
+    private boolean isShoneOn(int cell) {
+        for (int lamp = 0; lamp < lamps; lamp++) {
+            if (shinesOn(lamp, cell)) {
+                return true;
+            }
+        }
+        return false;
+    }
+
     private int cellsLitBy(int lamp) {
         int found = 0;
         for (int cell = 0; cell < CELLS; cell++) {
-            if ((lightOn(light, cell) & 1 << lamp) != 0) {
+            if ((lampsOn(cell) & 1 << lamp) != 0) {
                 found++;
             }
         }
@@ -530,7 +547,7 @@ public final class ShadowWalls {
     private int cellsLitOnlyBy(int lamp) {
         int found = 0;
         for (int cell = 0; cell < CELLS; cell++) {
-            if (lightOn(light, cell) == 1 << lamp) {
+            if (lampsOn(cell) == 1 << lamp) {
                 found++;
             }
         }
@@ -540,7 +557,7 @@ public final class ShadowWalls {
     private int brightness(int cell) {
         int sum = 0;
         for (int lamp = 0; lamp < lamps; lamp++) {
-            if ((lightOn(light, cell) & 1 << lamp) != 0) {
+            if ((lampsOn(cell) & 1 << lamp) != 0) {
                 int home = cellOfLamp(lamp);
                 int dx = Math.abs(columnOf(cell) - columnOf(home));
                 int dy = Math.abs(rowOf(cell) - rowOf(home));
@@ -580,13 +597,18 @@ public final class ShadowWalls {
         return found;
     }
 
-    private int litIfCarried(int lamp, int cell) {
+    /** The other lamps' light is kept, so only this one's is found anew. */
+    private int litIfCarried(int lamp, int goal) {
         int home = cellOfLamp(lamp);
-        System.arraycopy(light, 0, supposedLight, 0, CELLS);
-        putLamp(lamp, cell);
-        shine(lamp, supposedLight);
+        int found = 0;
+        putLamp(lamp, goal);
+        for (int cell = 0; cell < CELLS; cell++) {
+            if ((lampsOn(cell) & ~(1 << lamp)) != 0 || shinesOn(lamp, cell)) {
+                found++;
+            }
+        }
         putLamp(lamp, home);
-        return litCells(supposedLight);
+        return found;
     }
 
     // Watchers.

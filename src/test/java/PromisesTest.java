@@ -423,12 +423,27 @@ public final class PromisesTest {
                 due.is("14: " + kinds + ", further", want, () -> yard.stops(52, 91));
             }
         }
+        stopsAtOtherCorners();
         ShadowWalls late = new ShadowWalls();
         late.set(2, 0, 1);
         late.set(1, 1, 1);
         due.is("14: from 0 to 15 the corner lies between 1 and 14", 3, () -> late.stops(0, 15));
         late.set(2, 0, 0);
         due.is("14: one beside a corner stops nothing", 0, () -> late.stops(0, 15));
+    }
+
+    /** From 65 down to the left, to 76, the corner has 64 and 77 beside it. */
+    private static void stopsAtOtherCorners() {
+        ShadowWalls yard = new ShadowWalls();
+        yard.set(4, 5, 1);
+        due.is("14: one beside a corner to the left", 0, () -> yard.stops(65, 76));
+        yard.set(5, 6, 1);
+        due.is("14: both beside a corner to the left", 3, () -> yard.stops(65, 76));
+        due.is("14: both beside a corner to the right, back", 3, () -> yard.stops(76, 65));
+        due.is("14: the same ones on a longer way", 3, () -> yard.stops(54, 87));
+        yard.set(4, 5, 2);
+        due.is("14: wall and curtain stop light, not sight", 1, () -> yard.stops(65, 76));
+        due.is("14: they lie beside no corner of the other diagonal", 0, () -> yard.stops(52, 65));
     }
 
     private static void creeps() {
@@ -501,6 +516,16 @@ public final class PromisesTest {
         due.isRefused("17: from the left side", 61, sides, () -> sides.advise(0));
         sides.carry(0, 11, 11);
         due.isRefused("17: from the last cell", 131, sides, () -> sides.advise(0));
+        ShadowWalls lane = allOfKind(1);
+        for (int y = 0; y < 12; y++) {
+            lane.set(0, y, 0);
+        }
+        lane.set(1, 0, 0);
+        lane.lamp(1, 0, 3);
+        lane.lamp(1, 1, 1);
+        due.is("17: round the bend of the lane", 7, () -> lane.count(3));
+        due.isRefused("17: to cell 0, down the lane", 0, lane, () -> lane.advise(0));
+        due.is("17: what it gains", 9, () -> lane.carry(0, 0, 0));
         due.isRefused("17: no such lamp", Due.INDEX, sides, () -> sides.advise(1));
         due.isRefused("17: lamp -1", Due.INDEX, sides, () -> sides.advise(-1));
     }
