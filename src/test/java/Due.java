@@ -18,6 +18,8 @@ final class Due {
     static String answerOf(Callable<?> call) {
         try {
             return String.valueOf(call.call());
+        } catch (AssertionError broken) {
+            return "a broken test: " + broken.getMessage();
         } catch (Throwable thrown) {
             return "throws." + thrown.getClass().getSimpleName();
         }

@@ -33,6 +33,13 @@ public final class ModelTest {
     }
 
     private static void everyWay(Due due) {
+        for (int from = 0; from < 144; from++) {
+            everyWayFrom(from, due);
+        }
+    }
+
+    /** On a yard for each cell to start from, since a yard answers 512 calls only. */
+    private static void everyWayFrom(int start, Due due) {
         ShadowWalls yard = new ShadowWalls();
         Model model = new Model();
         Random draws = new Random(31);
@@ -41,16 +48,15 @@ public final class ModelTest {
             yard.set(cell % 12, cell / 12, kind);
             model.set(cell % 12, cell / 12, kind);
         }
-        for (int pair = 0; pair < 144 * 144; pair++) {
-            int from = pair / 144;
-            int to = pair % 144;
-            due.is("far(" + from + ", " + to + ")", model.far(from, to), () -> yard.far(from, to));
-            due.is("stops(" + from + ", " + to + ")", model.stops(from, to), () -> yard.stops(from, to));
+        for (int goal = 0; goal < 144; goal++) {
+            int to = goal;
+            due.is("far(" + start + ", " + to + ")", model.far(start, to), () -> yard.far(start, to));
+            due.is("stops(" + start + ", " + to + ")", model.stops(start, to), () -> yard.stops(start, to));
         }
     }
 
     private void play() {
-        for (int call = 0; call < CALLS; call++) {
+        for (int call = 1; call < CALLS; call++) {
             if (draws.nextInt(100) < building) {
                 call(0);
             } else {

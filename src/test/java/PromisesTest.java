@@ -56,7 +56,7 @@ public final class PromisesTest {
             int y = cell / 12;
             for (int what = 0; what <= 4; what++) {
                 int w = what;
-                due.is("1: told(" + x + ", " + y + ", " + w + ") of a new yard", 0, () -> yard.told(x, y, w));
+                due.is("1: told(" + x + ", " + y + ", " + w + ") of a new yard", 0, () -> new ShadowWalls().told(x, y, w));
             }
         }
         long d = 1447L;
@@ -568,8 +568,9 @@ public final class PromisesTest {
         yard.watcher(6, 7);
         yard.watcher(11, 0);
         yard.creep(2, 11, 1);
-        due.is("20: from what the face tells", digestOfFace(yard), yard::digest);
-        due.is("20: the same again", digestOfFace(yard), yard::digest);
+        long want = digestOfFace(yard);
+        due.is("20: from what the face tells", want, yard::digest);
+        due.is("20: the same again", want, yard::digest);
     }
 
     private static long digestOfFace(ShadowWalls yard) {
