@@ -38,6 +38,11 @@ final class EdgesOfSupposing {
             edges.changesNothing(kind == 1 || kind == 2 ? 0 : 2, "would(1, 0" + end, "lamp(0, 0, 2); set(1, 0, 1); set(0, 1, 2)");
             edges.changesNothing(0, "would(1, 0" + end, "lamp(0, 0, 2); lamp(2, 1, 1)");
         }
+        String[][] corners = {{"0, 0", "1, 0"}, {"11, 0", "10, 0"}, {"0, 11", "1, 11"}, {"11, 11", "10, 11"}};
+        for (String[] corner : corners) {
+            edges.changesNothing(0, "would(5, 5, 1)", "lamp(" + corner[0] + ", 2)");
+            edges.changesNothing(-1, "would(" + corner[1] + ", 1)", "lamp(" + corner[0] + ", 2)");
+        }
         edges.changesNothing(-2, "would(1, 0, 1)", "lamp(0, 0, 2); set(0, 1, 2)");
         edges.changesNothing(-2, "would(10, 11, 2)", "lamp(11, 11, 2); set(11, 10, 1)");
         edges.changesNothing(-11, "would(1, 0, 1)", "lamp(0, 0, 12);", Edges.row(1, 1));
