@@ -326,7 +326,7 @@ public final class ShadowWalls {
     }
 
     private static void requireCell(int cell) {
-        if (!isCell(cell)) {
+        if (cell < 0 || cell >= CELLS) {
             throw new IndexOutOfBoundsException("a cell is not 0 to 143");
         }
     }
@@ -363,10 +363,6 @@ public final class ShadowWalls {
 
     // Cells.
 
-    private static boolean isCell(int cell) {
-        return cell >= 0 && cell < CELLS;
-    }
-
     private static int cellAt(int x, int y) {
         return SIDE * y + x;
     }
@@ -395,11 +391,11 @@ public final class ShadowWalls {
     }
 
     private int kindOf(int cell) {
-        return isCell(cell) && cell < kinds.length ? kinds[cell] : OPEN;
+        return cell >= 0 && cell < kinds.length ? kinds[cell] : OPEN;
     }
 
     private void putKind(int cell, int kind) {
-        if (isCell(cell) && cell < kinds.length) {
+        if (cell >= 0 && cell < kinds.length) {
             kinds[cell] = kind;
         }
     }
